@@ -22,7 +22,7 @@ public final class AssemblyPlanner {
         product = new Product();
         parting = new Parting(product);
         ordering = new Ordering(product);
-        cell = new Cell(product, ordering);
+        cell = new Cell(product);
     }
 
     // ---- the product
@@ -207,7 +207,7 @@ public final class AssemblyPlanner {
 
     /** Makes a step; returns the part that is put in, NONE if its feeder jams. */
     public int step() throws IllegalStateException {
-        int part = cell.nextPart();
+        int part = ordering.bestAt(cell.nextPlace());
         if (part == NONE) {
             throw new IllegalStateException("not begun, or all parts are in");
         }
@@ -216,7 +216,7 @@ public final class AssemblyPlanner {
 
     /** Takes the part that was put in last out again; returns it. */
     public int stepBack() throws IllegalStateException {
-        int part = cell.lastPart();
+        int part = ordering.bestAt(cell.lastPlace());
         if (part == NONE) {
             throw new IllegalStateException("not begun, or no part is in");
         }
@@ -684,7 +684,7 @@ public final class AssemblyPlanner {
         }
     }
 
-    /** The cell, which puts the best order together. */
+    /** The cell: what is in, how long it took, and how the feeders are. */
     private static final class Cell {
         private static final int JAMS_TO_BYPASS = 2;
         private static final int CHANGE_TIME = 5;
@@ -696,7 +696,6 @@ public final class AssemblyPlanner {
         private static final int TAKE_OUT_TIME = 2;
 
         private final Product product;
-        private final Ordering ordering;
         private final int[] jamsToCome = new int[MOST_PARTS];
         private final int[] jamsSinceStart = new int[MOST_PARTS];
         private boolean begun;
@@ -705,9 +704,8 @@ public final class AssemblyPlanner {
         private int time;
         private int tool = NONE;
 
-        Cell(Product product, Ordering ordering) {
+        Cell(Product product) {
             this.product = product;
-            this.ordering = ordering;
         }
 
         int changeJams(int part, int jams) {
@@ -732,14 +730,14 @@ public final class AssemblyPlanner {
             }
         }
 
-        /** The part that is turned to next; NONE if the cell is not begun or all are in. */
-        int nextPart() {
-            return begun ? ordering.bestAt(placesIn) : NONE;
+        /** The place of the order that is turned to next; NONE if the cell is not begun. */
+        int nextPlace() {
+            return begun ? placesIn : NONE;
         }
 
-        /** The part that was put in last; NONE if the cell is not begun or none is in. */
-        int lastPart() {
-            return begun ? ordering.bestAt(placesIn - 1) : NONE;
+        /** The place of the order that was put in last; NONE if no part is in. */
+        int lastPlace() {
+            return placesIn > 0 ? placesIn - 1 : NONE;
         }
 
         /** Turns to the next part; tells whether it is in then, or its feeder jammed. */
