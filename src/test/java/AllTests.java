@@ -9,6 +9,7 @@ public final class AllTests {
         OrderTests.run(check);
         CellTests.run(check);
         ThrowingTests.run(check);
+        EdgeTests.run(check);
         ReferenceTests.run(check);
         System.out.println("project: " + check.passed() + " passed, " + check.failed() + " failed");
         if (check.failed() > 0) {

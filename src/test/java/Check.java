@@ -44,7 +44,8 @@ final class Check {
 
     private static String place() {
         for (StackTraceElement frame : new Throwable().getStackTrace()) {
-            if (!frame.getClassName().startsWith("Check")) {
+            String name = frame.getClassName();
+            if (!name.startsWith("Check") && !name.startsWith("Edges")) {
                 return frame.getFileName() + ":" + frame.getLineNumber();
             }
         }

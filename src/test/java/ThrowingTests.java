@@ -2,10 +2,6 @@
 final class ThrowingTests {
     private static final int[] WRONG = {-1, 3, 4, 6, 8, 31, 32, Integer.MIN_VALUE, Integer.MAX_VALUE};
 
-    private interface Asked {
-        Object ask(AssemblyPlanner planner);
-    }
-
     static void run(Check check) {
         check.title("Exceptions: a call that throws changes nothing");
         telling(check);
@@ -99,61 +95,7 @@ final class ThrowingTests {
         check.due(2, loose::begin);
     }
 
-    private static void changesNothing(Check check, String thrown, Asked asked) {
-        AssemblyPlanner planner = executing();
-        check.due(thrown, () -> asked.ask(planner));
-        check.due(portrait(executing()), () -> portrait(planner));
-    }
-
-    /** Three parts, two of them in, a feeder bypassed, with jams to come. */
-    private static AssemblyPlanner executing() {
-        AssemblyPlanner planner = Products.tower(1, 2, 1);
-        planner.setBase(1);
-        planner.hinder(0, 2, 1, true);
-        planner.setJams(0, 2);
-        planner.setJams(2, 1);
-        planner.begin();
-        planner.step();
-        planner.step();
-        planner.step();
-        planner.step();
-        return planner;
-    }
-
-    /** All that calls on a planner of three parts can tell. */
-    private static String portrait(AssemblyPlanner planner) {
-        StringBuilder text = new StringBuilder();
-        add(text, planner::parts, planner::built, planner::clock, planner::mounted);
-        for (int part = 0; part < 3; part++) {
-            int at = part;
-            add(text, () -> planner.isBypassed(at), () -> planner.orderAt(at));
-            for (int direction = 0; direction < 6; direction++) {
-                int way = direction;
-                add(text, () -> planner.movesWith(at, way), () -> planner.boundTo(at, way));
-            }
-        }
-        for (int set = 1; set < 8; set++) {
-            int asked = set;
-            add(text, () -> planner.isConnected(asked), () -> planner.isSteady(asked), () -> planner.splits(asked));
-            for (int part = 0; part < 3; part++) {
-                int at = part;
-                add(text, () -> planner.free(asked, at), () -> planner.canTake(asked, at));
-            }
-        }
-        add(text, planner::ways, planner::leastDepth, planner::orders);
-        add(text, planner::fewestChanges, planner::fewestByListing);
-        add(text, planner::step, planner::clock, planner::step, planner::clock, planner::step, planner::stepBack);
-        for (int part = 0; part < 3; part++) {
-            int at = part;
-            add(text, () -> planner.setJams(at, 0), () -> planner.setTool(at, 0));
-        }
-        add(text, () -> planner.setBase(0), () -> planner.askSteady(true), () -> planner.addPart(0));
-        return text.toString();
-    }
-
-    private static void add(StringBuilder text, Check.Call... calls) {
-        for (Check.Call call : calls) {
-            text.append(Check.answerOf(call)).append(' ');
-        }
+    private static void changesNothing(Check check, String thrown, Edges.Use use) {
+        Edges.refused(check, thrown, Starts::three, use);
     }
 }
